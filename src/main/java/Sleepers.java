@@ -28,6 +28,7 @@ public final class Sleepers {
 
     // Far above what any run can need: an end that every loop has.
     private static final int MOST_LOOPS = 1000000;
+    private static final int GREATEST = 2147483647;
 
     private static final int BY_ZERO = 11;
     private static final int TOO_LATE = 21;
@@ -109,10 +110,10 @@ public final class Sleepers {
             return NONE;
         }
         int given = told.given[routine];
-        fresh.cells[0] = given > 0 ? a : 0;
-        fresh.cells[1] = given > 1 ? b : 0;
-        fresh.cells[2] = given > 2 ? c : 0;
-        fresh.cells[3] = given > 3 ? d : 0;
+        fresh.set(0, given > 0 ? a : 0);
+        fresh.set(1, given > 1 ? b : 0);
+        fresh.set(2, given > 2 ? c : 0);
+        fresh.set(3, given > 3 ? d : 0);
         return fresh.number;
     }
 
@@ -158,7 +159,7 @@ public final class Sleepers {
         if (!hall.has(t) || k < 0 || k >= told.cells[hall.tasks[t].routine]) {
             throw new NoSuchElementException("no such cell");
         }
-        return hall.tasks[t].cells[k];
+        return hall.tasks[t].look(k);
     }
 
     public int row(int k) {
@@ -544,6 +545,10 @@ public final class Sleepers {
             return has(routine) && state >= 0 && state <= waits[routine];
         }
 
+        int scopeAt(int at) {
+            return at >= 0 && at < size ? scope[at] : NONE;
+        }
+
         static boolean isStep(int itsOp) {
             return (STEPS >>> itsOp & 1) != 0;
         }
@@ -645,6 +650,7 @@ public final class Sleepers {
         private Scopes scopes;
         private int at;
         private int fault;
+        // Where the next act stands: its scope, the while that it may leave, the finishes about it.
         private int scope;
         private int loop;
         private int finishes;
@@ -1309,6 +1315,16 @@ public final class Sleepers {
             number = itsNumber;
         }
 
+        int look(int k) {
+            return k >= 0 && k < MOST_CELLS ? cells[k] : 0;
+        }
+
+        void set(int k, int value) {
+            if (k >= 0 && k < MOST_CELLS) {
+                cells[k] = value;
+            }
+        }
+
         int tell(int what) {
             switch (what) {
                 case 0: return state;
@@ -1590,7 +1606,7 @@ public final class Sleepers {
         }
 
         void setAlarm(Part part, int ticks) {
-            part.due = ticks > Integer.MAX_VALUE - clock ? Integer.MAX_VALUE : clock + ticks;
+            part.due = ticks > GREATEST - clock ? GREATEST : clock + ticks;
             alarms.add(part);
         }
 
@@ -1882,7 +1898,7 @@ public final class Sleepers {
             if (t.turns == 1) {
                 return;
             }
-            int scope = hall.program.scope[t.pc];
+            int scope = hall.program.scopeAt(t.pc);
             if (outcome == Part.COME) {
                 push(t.value);
                 t.pc++;
@@ -1951,7 +1967,7 @@ public final class Sleepers {
                     push(arg);
                     break;
                 case Program.CELL:
-                    push(t.cells[arg]);
+                    push(t.look(arg));
                     break;
                 case Program.CLOCK:
                     push(hall.clock);
@@ -1998,7 +2014,7 @@ public final class Sleepers {
             int arg = program.arg[at];
             switch (op) {
                 case Program.STORE:
-                    t.cells[arg] = pop();
+                    t.set(arg, pop());
                     break;
                 case Program.NOTE:
                     puts.note(t.number, pop());
@@ -2030,7 +2046,7 @@ public final class Sleepers {
                     }
                     break;
                 case Program.CATCH:
-                    t.cells[arg] = failure;
+                    t.set(arg, failure);
                     break;
                 case Program.FINISH_END:
                     finishEnd(t, arg);
@@ -2168,7 +2184,7 @@ public final class Sleepers {
                 return;
             }
             for (int i = hall.program.given[routine] - 1; i >= 0; i--) {
-                child.cells[i] = pop();
+                child.set(i, pop());
             }
             Part part = hall.newPart(t, Part.CHILD);
             part.child = child;
