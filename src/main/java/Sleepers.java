@@ -368,7 +368,6 @@ public final class Sleepers {
         static final int FINISH = 2;
         static final int BREAK = 4;
         static final int CONTINUE = 8;
-        static final int RETURN = 16;
 
         int tries;
         final int[] outer = new int[MOST_MARKED];
@@ -852,7 +851,6 @@ public final class Sleepers {
             step();
             expression(0);
             emit(Program.RETURN, program.routines - 1);
-            scopes.markOutward(scope, NONE, Scopes.RETURN);
         }
 
         private void leftLoop() {
@@ -1216,7 +1214,7 @@ public final class Sleepers {
                     reach(scopes.continueTo(scope, arg));
                     break;
                 case Program.RETURN:
-                    reach(scopes.leaveTo(scope, NONE, end));
+                    reach(scopes.cancelTo(scope, end));
                     break;
                 case Program.BLOCK_END:
                     reach(scopes.is(arg, Scopes.FINISH) ? scopes.finishAt[arg] : scopes.behindTry[arg]);
@@ -1237,10 +1235,8 @@ public final class Sleepers {
             int loop = scopes.loopAbout[tried];
             reach(scopes.behindTry[tried]);
             reach(scopes.failureTo(outer, end));
+            // A return would lead to where a CANCEL does.
             reach(scopes.cancelTo(outer, end));
-            if (scopes.is(tried, Scopes.RETURN)) {
-                reach(scopes.leaveTo(outer, NONE, end));
-            }
             if (loop >= 0 && scopes.is(tried, Scopes.BREAK)) {
                 reach(scopes.breakTo(outer, loop));
             }

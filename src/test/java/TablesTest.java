@@ -134,6 +134,8 @@ public final class TablesTest {
         next(y, 0, 1, 0, 2);
         live(y, 0, 1, "abc");
         live(y, 0, 2, "bc");
+        // From a finish's end: behind its try, as a failure, and as a CANCEL.
+        next(Due.with("routine r ( ) { try { try { fail 1 ; } finish { } wait yield ; } on e { wait yield ; } }"), 0, 0, 0, 1, 2);
         // A finish that nothing but a CANCEL or a failure goes through leads behind its try all the same.
         Sleepers z = Due.with("routine r ( ) { try { return 1 ; } finish { } wait yield ; }");
         next(z, 0, 0, 0, 1);
