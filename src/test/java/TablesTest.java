@@ -1,5 +1,5 @@
 /** Promises 6 and 7: what is LIVE behind a STATE, and which STATE may be next. */
-public final class TablesTest {
+public final class TablesTest extends Ways {
     public static void main(String[] args) {
         wrongInputs();
         straight();
@@ -14,29 +14,6 @@ public final class TablesTest {
         leavingsThroughFinishes();
         deadTexts();
         Due.end();
-    }
-
-    /** The CELLS that are live behind a STATE, in the order in which they have their numbers. */
-    static void live(Sleepers x, int routine, int state, String cells) {
-        String[] names = {"a", "b", "c", "d", "e"};
-        for (String name : names) {
-            int cell = Due.named(x, name, routine);
-            if (cell != -1) {
-                Due.due("live(" + routine + ", " + state + ", " + name + ")", x.live(routine, state, cell),
-                        cells.contains(name) ? 1 : 0);
-            }
-        }
-    }
-
-    /** The STATES that may be next, 0 the end. */
-    static void next(Sleepers x, int routine, int state, int... wanted) {
-        for (int to = 0; to < x.routine(routine, 2); to++) {
-            int is = 0;
-            for (int w : wanted) {
-                is = w == to ? 1 : is;
-            }
-            Due.due("next(" + routine + ", " + state + ", " + to + ")", x.next(routine, state, to), is);
-        }
     }
 
     static void wrongInputs() {

@@ -5,16 +5,28 @@ import java.util.NoSuchElementException;
 final class Due {
     private static int looked = 0;
     private static int wrong = 0;
+    private static String sentence = "";
 
     private Due() {
+    }
+
+    /** The sentence of the document that the answers from here on are held against. */
+    static void of(String itsSentence) {
+        sentence = " [" + itsSentence + "]";
     }
 
     static void due(String what, long got, long want) {
         looked++;
         if (got != want) {
             wrong++;
-            System.out.println(what + " answered " + got + ", due is " + want);
+            System.out.println(cut(what) + " answered " + got + ", due is " + want + sentence);
         }
+    }
+
+    /** A long text's beginning and end. */
+    private static String cut(String what) {
+        int length = what.length();
+        return length <= 240 ? what : what.substring(0, 120) + " .. " + what.substring(length - 120);
     }
 
     static void due(String what, boolean got, boolean want) {
