@@ -56,6 +56,8 @@ public final class CallBounds extends Runs {
         countOfLetters();
         countOfSigns();
         countAnother();
+        refusedCallsChangeNothing();
+        askingChangesNothing();
         Due.end();
     }
 
@@ -839,5 +841,60 @@ public final class CallBounds extends Runs {
         Due.due("12", x.count(12), -1);
         outside("count", x::count, -1);
         Due.due("11", x.count(11), 0);
+    }
+
+    /** One task in the ROW, one in a wait, one that waits for its child, one that has ended. */
+    static Sleepers mixed() {
+        Sleepers x = Due.with("routine a(n){put n;b=wait letter 0;}routine c(){wait first(letter 1,child k());}routine k(){wait tick 5;}routine d(){wait yield;}");
+        x.begin(0, 4, 0, 0, 0);
+        x.begin(1, 0, 0, 0, 0);
+        x.begin(3, 0, 0, 0, 0);
+        x.rounds(4);
+        x.letter(1, 6);
+        x.letter(2, 7);
+        x.tick(3);
+        x.cancel(2);
+        Due.row("mixed", t -> x.task(t, 0), 1, 2, 0, 0);
+        Due.feed(x, "ab");
+        return x;
+    }
+
+    static void refusedCallsChangeNothing() {
+        Due.of("a call that is refused (promises 5 to 21) leaves all as it was");
+        Sleepers x = mixed();
+        String ahead = all(x);
+        int[] out = {MIN, -1, 401, MAX};
+        for (int n : out) {
+            x.begin(n, 1, 1, 1, 1);
+            x.turn(n);
+            x.rounds(n);
+            x.letter(n, 1);
+            x.tick(n < 0 ? n : n == MAX ? n : 10001);
+            x.cancel(n);
+            x.live(n, 0, 0);
+            x.next(0, n, 0);
+            x.row(n);
+            x.put(n, 0);
+            x.lost(n, 0);
+            x.box(n, 0);
+            x.stands(n, 0);
+            x.count(n);
+            Due.none("routine", () -> x.routine(n, 0));
+            Due.none("task", () -> x.task(n, 0));
+            Due.none("cell", () -> x.cell(0, n));
+        }
+        x.cancel(2);
+        Due.due("all is as it was", all(x).equals(ahead), true);
+    }
+
+    static void askingChangesNothing() {
+        Due.of("live, next, routine, task, cell, row, put, lost, box, stands, count tell, and change nothing");
+        Sleepers x = mixed();
+        String ahead = all(x);
+        Due.due("all is as it was", all(x).equals(ahead), true);
+        Sleepers y = mixed();
+        Due.due("rounds", x.rounds(9), 3);
+        Due.due("without asking", y.rounds(9), 3);
+        Due.due("all is the same", all(x).equals(all(y)), true);
     }
 }

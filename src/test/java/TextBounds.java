@@ -1012,23 +1012,6 @@ public final class TextBounds {
         Due.due("further", x.count(8), 12);
     }
 
-    /** All that can be asked of a small object. */
-    static String all(Sleepers x) {
-        StringBuilder told = new StringBuilder();
-        for (int k = 0; k < 12; k++) {
-            told.append(x.count(k)).append(' ');
-        }
-        for (int t = 0; t < 3; t++) {
-            for (int k = 0; k < 8; k++) {
-                told.append(x.task(t, k)).append(' ');
-            }
-        }
-        told.append(x.cell(0, 0)).append(x.row(0)).append(x.row(1)).append(x.put(0, 0)).append(x.put(0, 1));
-        told.append(x.lost(0, 0)).append(x.lost(0, 1)).append(x.box(2, 0)).append(x.stands(1, 0));
-        told.append(x.routine(0, 0)).append(x.routine(1, 2)).append(x.live(0, 0, 0)).append(x.next(0, 1, 0));
-        return told.toString();
-    }
-
     static void elseAllStays() {
         Due.of("Else all stays");
         String[] faulty = {"!", "routine a(){", "routine c(){wait child d();}", "routine c(){}routine c(){}", "routine c(){fail 0;}",
@@ -1036,9 +1019,9 @@ public final class TextBounds {
         int[] kinds = {1, 1, 2, 3, 4, 5, 6};
         for (int i = 0; i < faulty.length; i++) {
             Sleepers x = busy();
-            String ahead = all(x);
+            String ahead = Runs.all(x);
             Due.due("kind of " + faulty[i], Due.program(x, faulty[i]) % 16, kinds[i]);
-            Due.due("all is as it was", all(x).equals(ahead), true);
+            Due.due("all is as it was", Runs.all(x).equals(ahead), true);
             Due.due("and goes on", x.letter(1, 5), 0);
             Due.due("and goes on", x.rounds(9), 3);
             Due.due("well", x.task(0, 1), 0);

@@ -25,4 +25,32 @@ class Runs {
         x.rounds(400);
         return x;
     }
+
+    /** All that can be told of an object with a few tasks. */
+    static String all(Sleepers x) {
+        StringBuilder told = new StringBuilder();
+        for (int k = 0; k < 12; k++) {
+            told.append(x.count(k)).append(' ');
+        }
+        int tasks = x.count(1);
+        for (int t = 0; t < tasks; t++) {
+            for (int k = 0; k < 8; k++) {
+                told.append(x.task(t, k)).append(' ');
+            }
+            int cells = x.routine(x.task(t, 4), 1);
+            for (int k = 0; k < cells; k++) {
+                told.append(x.cell(t, k)).append(' ');
+            }
+        }
+        for (int k = 0; k < 8; k++) {
+            told.append(x.row(k)).append(' ').append(x.put(k, 0)).append(' ').append(x.put(k, 1)).append(' ');
+            told.append(x.lost(k, 0)).append(' ').append(x.lost(k, 1)).append(' ');
+            told.append(x.box(k, 0)).append(' ').append(x.stands(k, 0)).append(' ');
+        }
+        int routines = x.count(0);
+        for (int r = 0; r < routines; r++) {
+            told.append(x.routine(r, 0)).append(x.routine(r, 2)).append(x.live(r, 0, 0)).append(x.next(r, 0, 1)).append(' ');
+        }
+        return told.toString();
+    }
 }
